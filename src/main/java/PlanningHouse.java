@@ -366,7 +366,7 @@ public final class PlanningHouse {
             return NONE;
         }
         judge.survey(q, q.freeVars(), NONE, NONE);
-        return q.take(judge.bestIndex) ? 1 : 0;
+        return q.adopt(judge.bestIndex) ? 1 : 0;
     }
 
     public long best(int p, int level) {
@@ -389,7 +389,7 @@ public final class PlanningHouse {
 
     public boolean bestAt(int p, int k) {
         Problem q = at(p);
-        return q != null && q.take(judge.indexOf(q, true, k));
+        return q != null && q.adopt(judge.indexOf(q, true, k));
     }
 
     public int feasibles(int p) {
@@ -399,7 +399,7 @@ public final class PlanningHouse {
 
     public boolean feasibleAt(int p, int k) {
         Problem q = at(p);
-        return q != null && q.take(judge.indexOf(q, false, k));
+        return q != null && q.adopt(judge.indexOf(q, false, k));
     }
 
     public int has(int p, int v, int value, boolean best) {
@@ -423,7 +423,7 @@ public final class PlanningHouse {
             return NONE;
         }
         judge.survey(q, set & q.script.allVars(), NONE, NONE);
-        return q.take(judge.bestIndex) ? 1 : 0;
+        return q.adopt(judge.bestIndex) ? 1 : 0;
     }
 
     // ---- several aims, near plans
@@ -443,7 +443,7 @@ public final class PlanningHouse {
 
     public boolean frontPlan(int p, int k) {
         Problem q = at(p);
-        return q != null && judge.findPair(q, k) && q.take(judge.pairPlan);
+        return q != null && judge.findPair(q, k) && q.adopt(judge.pairPlan);
     }
 
     public int near(int p, boolean best) {
@@ -533,7 +533,7 @@ public final class PlanningHouse {
         if (q == null) {
             return NONE;
         }
-        return q.take(judge.mostRobust(q)) ? 1 : 0;
+        return q.adopt(judge.mostRobust(q)) ? 1 : 0;
     }
 
     public long expected(int p, int level) {
@@ -814,14 +814,12 @@ public final class PlanningHouse {
         private void open(Row row) {
             text = row;
             end = 0;
-            kind = NONE;
+            kind = NAME;
             known = 0;
             faultCode = 0;
             faultPlace = 0;
-            boolean more = true;
-            while (more && known <= row.length) {
+            for (int n = 0; n <= row.length && kind != END && kind != BAD; n++) {
                 scan();
-                more = kind != END && kind != BAD;
                 note();
             }
             passed = -1;
@@ -999,12 +997,14 @@ public final class PlanningHouse {
         private final int[] levels = new int[MAX_FORMULAS];
         private final int[] weights = new int[MAX_FORMULAS];
         private final int[] masks = new int[MAX_FORMULAS];
+        private final int[] users = new int[MAX_VARS];
         private final int[] hard = new int[MAX_HARD];
         private int hardCount;
 
         private void clear() {
             statementCount = 0;
             Arrays.fill(counts, 0);
+            Arrays.fill(users, 0);
             plans = 1;
             codeLength = 0;
             hardCount = 0;
@@ -1104,6 +1104,9 @@ public final class PlanningHouse {
             starts[k] = from;
             ends[k] = codeLength;
             masks[k] = vars;
+            for (int v = 0; v < counts[VARS]; v++) {
+                users[v] |= (vars >> v & 1) << k;
+            }
         }
 
         private void tellFormula(int sort, long key, int level, int weight) {
@@ -1653,7 +1656,7 @@ public final class PlanningHouse {
         }
 
         /** The plan with a number is at hand then; false when it is NONE. */
-        private boolean take(int index) {
+        private boolean adopt(int index) {
             if (index < 0) {
                 return false;
             }
@@ -1706,6 +1709,8 @@ public final class PlanningHouse {
         private int index;
         private final int[] stack = new int[512];
         private int top;
+        private final int[] results = new int[MAX_FORMULAS];
+        private int known;
 
         private Trial(Problem first) {
             script = first.script;
@@ -1716,6 +1721,7 @@ public final class PlanningHouse {
         private int begin(Script of, int[] byFacts, int[] base, int freeVars) {
             script = of;
             facts = byFacts;
+            known = 0;
             free = freeVars;
             index = 0;
             for (int v = 0; v < of.counts[VARS]; v++) {
@@ -1726,7 +1732,13 @@ public final class PlanningHouse {
             return of.plansOf(freeVars);
         }
 
+        private void goBy(int[] otherFacts) {
+            facts = otherFacts;
+            known = 0;
+        }
+
         private void set(int v, int place) {
+            known &= ~script.users[v];
             index += (place - places[v]) * script.strides[v];
             places[v] = place;
             values[v] = script.valueAt(v, place);
@@ -1760,8 +1772,12 @@ public final class PlanningHouse {
         }
 
         private void totals(long[] into) {
-            for (int level = 0; level < LEVELS; level++) {
-                into[level] = total(level);
+            Arrays.fill(into, 0);
+            for (int r = 0; r < script.counts[RULES]; r++) {
+                into[script.levels[r]] += (long) script.weights[r] * run(r);
+            }
+            for (int k = MAX_RULES; k < MAX_RULES + script.counts[AIMS]; k++) {
+                into[script.levels[k]] += run(k);
             }
         }
 
@@ -1774,7 +1790,11 @@ public final class PlanningHouse {
             return true;
         }
 
+        /** What a formula is. It is worked out anew only if a var in it has changed. */
         private int run(int formula) {
+            if ((known >> formula & 1) != 0) {
+                return results[formula];
+            }
             int[] code = script.code;
             int pc = script.starts[formula];
             int end = script.ends[formula];
@@ -1787,26 +1807,24 @@ public final class PlanningHouse {
                     stack[top++] = values[argument];
                 } else if (operation == NUMBER) {
                     stack[top++] = argument;
+                } else if (operation <= ARROW && operation != '~' && top > 1) {
+                    top--;
+                    stack[top - 1] = pair(operation, stack[top - 1], stack[top]);
                 } else if (operation == FACT) {
                     stack[top++] = facts[argument];
                 } else if (operation >= ALL && operation <= APART) {
                     stack[top++] = listed(operation, code, pc);
                     pc += argument;
-                } else if (top > 0 && isAlone(operation)) {
-                    stack[top - 1] = alone(operation, stack[top - 1], code, pc);
-                    pc += operation == PICK ? argument : 0;
                 } else if (operation == MIN || operation == MAX) {
                     joinMany(operation == MIN, argument);
-                } else if (top > 1) {
-                    top--;
-                    stack[top - 1] = pair(operation, stack[top - 1], stack[top]);
+                } else if (top > 0) {
+                    stack[top - 1] = alone(operation, stack[top - 1], code, pc);
+                    pc += operation == PICK ? argument : 0;
                 }
             }
-            return top == 0 ? 0 : stack[0];
-        }
-
-        private static boolean isAlone(int operation) {
-            return operation == '~' || operation == NEGATE || operation == ABS || operation == PICK;
+            results[formula] = top == 0 ? 0 : stack[0];
+            known |= 1 << formula;
+            return results[formula];
         }
 
         private static int alone(int operation, int a, int[] code, int at) {
@@ -2055,10 +2073,28 @@ public final class PlanningHouse {
 
         private void scoreHere() {
             int i = trial.index;
-            if ((problem.known[i] & SCORES_KNOWN) == 0) {
-                problem.ones[i] = trial.total(1);
-                problem.twos[i] = trial.total(2);
-                problem.known[i] |= SCORES_KNOWN;
+            if ((problem.known[i] & SCORES_KNOWN) != 0) {
+                return;
+            }
+            Script script = problem.script;
+            problem.ones[i] = 0;
+            problem.twos[i] = 0;
+            for (int r = 0; r < script.counts[RULES]; r++) {
+                if (script.levels[r] > 0) {
+                    addHere(script.levels[r], (long) script.weights[r] * trial.run(r));
+                }
+            }
+            for (int k = MAX_RULES; k < MAX_RULES + script.counts[AIMS]; k++) {
+                addHere(script.levels[k], trial.run(k));
+            }
+            problem.known[i] |= SCORES_KNOWN;
+        }
+
+        private void addHere(int level, long score) {
+            if (level == 1) {
+                problem.ones[trial.index] += score;
+            } else {
+                problem.twos[trial.index] += score;
             }
         }
 
@@ -2190,7 +2226,7 @@ public final class PlanningHouse {
                 }
                 trial.step();
             }
-            q.take(nearest);
+            q.adopt(nearest);
             return least;
         }
 
@@ -2349,7 +2385,7 @@ public final class PlanningHouse {
 
         private boolean keepsHardAlways(Problem q) {
             for (int u = 0; u < q.futures; u++) {
-                trial.facts = futureFacts[u];
+                trial.goBy(futureFacts[u]);
                 if (!trial.keepsHard()) {
                     return false;
                 }
@@ -2361,7 +2397,7 @@ public final class PlanningHouse {
         private long oddsTimes(Problem q, int level) {
             long sum = 0;
             for (int u = 0; u < q.futures; u++) {
-                trial.facts = futureFacts[u];
+                trial.goBy(futureFacts[u]);
                 sum += q.odds[u] * trial.total(level);
             }
             return sum;
