@@ -389,7 +389,7 @@ public final class AgainstModelTest {
             vars.clear();
             names.clear();
             StringBuilder s = new StringBuilder();
-            int n = 1 + below(4);
+            int n = below(12) == 0 ? 5 + below(8) : 1 + below(4);
             int most = below(10) == 0 ? 2000 : 150;
             List<String> parts = new ArrayList<>();
             for (int i = 0; i < n; i++) {
@@ -433,7 +433,7 @@ public final class AgainstModelTest {
         }
 
         private String var(int most) {
-            int size = 1 + below(5);
+            int size = below(20) == 0 ? 15 + below(6) : 1 + below(5);
             if (plans * size > most) {
                 size = 1;
             }
@@ -444,7 +444,7 @@ public final class AgainstModelTest {
             } else {
                 List<Integer> values = new ArrayList<>();
                 while (values.size() < size) {
-                    int x = below(9) - 2;
+                    int x = below(size > 8 ? 190 : 9) - (size > 8 ? 95 : 2);
                     if (!values.contains(x)) {
                         values.add(x);
                     }
