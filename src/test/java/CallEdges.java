@@ -1,3 +1,5 @@
+import java.util.Arrays;
+
 /** Edges of promises 1 to 52, 57 and 58, and of what "Terms" says of calls that name what there is not. */
 final class CallEdges {
     // 18 plans. Feasible are, with each c: 0 2, 0 -1, 1 2, 1 0, 1 -1, 2 0, 2 -1; the best is 1 0 5, with 0 and 5.
@@ -48,11 +50,14 @@ final class CallEdges {
         costs();
         scores();
         left();
+        leftByRules();
         hopeless();
         best();
         having();
         mends();
         fronts();
+        frontsOfAllSizes();
+        frontsOfAllPlans();
         near();
         clashes();
         without();
@@ -60,6 +65,7 @@ final class CallEdges {
         futures();
         told();
         robust();
+        robustByLevels();
         expected();
         regret();
         boards();
@@ -114,10 +120,12 @@ final class CallEdges {
             "near(?, false)", "clash(?)", "fewest(?)", "relax(?)", "because(?, 0, 0)", "future(?, 1)", "unfold(?)",
             "robust(?)", "search(?, 0, 1, 1, 1)", "prove(?)", "save(?)");
         Edges.terms("what names a problem that there is not answers NO, and changes nothing");
-        refusedFor(NO_PROBLEM, Edges.NO, "range(?, 0, 0)", "fact(?, 0)", "value(?, 0)", "aim(?, 0)", "score(?, 0)", "best(?, 0)",
+        refusedFor(NO_PROBLEM, Edges.NO, "range(?, 0, 0)", "fact(?, 0)", "value(?, 0)", "aim(?, 0)", "score(?, 0)",
+            "best(?, 0)",
             "frontAt(?, 0, 0)", "without(?, 0, 0)", "whyNot(?, 0, 0, 0)", "expected(?, 1)", "regret(?, 1)");
         Edges.terms("what names a problem that there is not answers false, and changes nothing");
-        refusedFor(NO_PROBLEM, 0, "drop(?)", "change(?, 0, 1)", "put(?, 0, 1)", "pin(?, 0, true)", "pin(?, 0, false)", "feasible(?)",
+        refusedFor(NO_PROBLEM, 0, "drop(?)", "change(?, 0, 1)", "put(?, 0, 1)", "pin(?, 0, true)", "pin(?, 0, false)",
+            "feasible(?)",
             "isLeft(?, 0, 0)", "bestAt(?, 0)", "feasibleAt(?, 0)", "frontPlan(?, 0)", "told(?, 0, 0, 1)");
         Edges.terms("check() answers FULL without the problem, and changes nothing");
         refusedFor(NO_PROBLEM, Edges.FULL, "check(?)");
@@ -330,7 +338,8 @@ final class CallEdges {
         }
         Edges.promise(10, "all of the tape must be one NAME that is no WORD, without blanks; it stays");
         x = Edges.with("var a in 0..1; var abcdefgh in 0..1; var in1 in 0..1;");
-        String[] tapes = {"a", "abcdefgh", "in1", "A", "abcdefg", "abcdefghi", "abcdefgha", "in", "var", "", " ", " a", "a ", "\na",
+        String[] tapes = {"a", "abcdefgh", "in1", "A", "abcdefg", "abcdefghi", "abcdefgha", "in", "var", "", " ", " a",
+            "a ", "\na",
             "a\r", "a%", "%a", "a;", "a a", "1", "a1", "1a", "\u00e1", "\0a", "a\0"};
         int[] due = {100, 101, 102};
         for (int i = 0; i < tapes.length; i++) {
@@ -346,7 +355,8 @@ final class CallEdges {
     private static void letters() {
         Edges.promise(11, "byte i of the NAME of fact (kind 0), var (1), rule (2), aim (3) k");
         String[][] names = {{"f", "Gg"}, {"abcdefgh", "z"}, {"Zz9"}, {"m0000000"}};
-        PlanningHouse x = Edges.with("fact f = 1; fact Gg = 1; var abcdefgh in 0..1; var z in 0..1; rule Zz9 at 1*1: 1 = 1; aim m0000000 at 1: 1;");
+        PlanningHouse x = Edges.with("fact f = 1; fact Gg = 1; var abcdefgh in 0..1; var z in 0..1; "
+            + "rule Zz9 at 1*1: 1 = 1; aim m0000000 at 1: 1;");
         for (int kind = 0; kind < 4; kind++) {
             for (int k = 0; k < names[kind].length; k++) {
                 String name = names[kind][k];
@@ -371,7 +381,8 @@ final class CallEdges {
     private static void shownTokens() {
         Edges.promise(12, "all tokens of statement k as they stand there, one byte 32 between two, with its ;");
         PlanningHouse x = Edges.with("%r\n fact\tf=-0007 ;var  a in{0,-1,02}%x\n;rule r at 0*1:a<=f->~{a>=0}|a#1;aim m at 1:a-1;%");
-        String[] shown = {"fact f = - 0007 ;", "var a in { 0 , - 1 , 02 } ;", "rule r at 0 * 1 : a <= f -> ~ { a >= 0 } | a # 1 ;",
+        String[] shown = {"fact f = - 0007 ;", "var a in { 0 , - 1 , 02 } ;",
+            "rule r at 0 * 1 : a <= f -> ~ { a >= 0 } | a # 1 ;",
             "aim m at 1 : a - 1 ;"};
         for (int k = 0; k < shown.length; k++) {
             String call = "shown(0, " + k + ", ";
@@ -392,6 +403,18 @@ final class CallEdges {
         Edges.due(x, "change(0, 0, 5)", 1);
         Edges.due(x, "shown(0, 0, 9)", '-');
         refused('f', "shown(0, 0, 0)");
+        Edges.promise(12, "each problem has its own text, whatever was read behind it");
+        Edges.due("problem()", Edges.read(x, "var bb in 0..1;"), 1);
+        Edges.type(x, "tape");
+        for (int k = 0; k < shown.length; k++) {
+            for (int i = 0; i < shown[k].length(); i++) {
+                Edges.due(x, "shown(0, " + k + ", " + i + ")", shown[k].charAt(i));
+            }
+        }
+        Edges.due(x, "find(0)", Edges.NONE);
+        Edges.due(x, "shown(1, 0, 15)", '1');
+        Edges.due(x, "shown(1, 0, 17)", ';');
+        Edges.due(x, "shown(1, 0, 18)", Edges.NONE);
     }
 
     private static void ranges() {
@@ -427,14 +450,17 @@ final class CallEdges {
             }
         }
         refused(Edges.NONE, "rule(0, 0, -1)", "rule(0, 0, 4)", "rule(0, 0, MIN)", "rule(0, 0, MAX)");
-        refused(Edges.NONE, "rule(0, -1, 0)", "rule(0, 4, 0)", "rule(0, 4, 3)", "rule(0, 24, 1)", "rule(0, MIN, 2)", "rule(0, MAX, 3)");
+        refused(Edges.NONE, "rule(0, -1, 0)", "rule(0, 4, 0)", "rule(0, 4, 3)", "rule(0, 24, 1)", "rule(0, MIN, 2)",
+            "rule(0, MAX, 3)");
         Edges.promise(14, "the set of vars in it, also those that do not matter, in lists, and none");
         StringBuilder text = new StringBuilder("fact f = 1;");
         for (int v = 0; v < 12; v++) {
             text.append("var v").append(v).append(" in 0..1;");
         }
-        PlanningHouse x = Edges.with(text + "rule r at 1*1: f = 1; rule s at 0*1000: v11 * 0 = 0; rule t at 2*1: all(v0, v11, v3);"
-            + "rule u at 1*1: row(v1 : (0)) | lex(v2 : v3) | ring(v4) | auto(v5 : (0,0,0) : 0) | busy(1 : (v6, 1, 1)) | apart((v7, v8, 1, 1))"
+        PlanningHouse x = Edges.with(text + "rule r at 1*1: f = 1; rule s at 0*1000: v11 * 0 = 0; "
+            + "rule t at 2*1: all(v0, v11, v3);"
+            + "rule u at 1*1: row(v1 : (0)) | lex(v2 : v3) | ring(v4) | auto(v5 : (0,0,0) : 0) | busy(1 : (v6, 1, 1)) "
+                + "| apart((v7, v8, 1, 1))"
             + "| [v9 = 0] = 1 | pick(v10 : 1) = 1; rule w at 1*1: v0 = f;");
         int[] sets = {0, 1 << 11, 1 | 1 << 11 | 8, 0x7fe, 1};
         int[] can = {0, 0, 1, 0, 1};
@@ -467,7 +493,7 @@ final class CallEdges {
         for (int f = 0; f < 16; f++) {
             text.append("fact f").append(f).append(" = -").append(f).append(';');
         }
-        PlanningHouse x = Edges.with(text + "aim m at 1: f0 * 2 + f15;");
+        PlanningHouse x = Edges.with(text + "aim m at 1: f0 * 2 + f15; aim n at 2: f15 - 1; rule r at 2*3: a = f15;");
         for (int f = 0; f < 16; f++) {
             Edges.due(x, "fact(0, " + f + ")", -f);
         }
@@ -479,10 +505,20 @@ final class CallEdges {
             Edges.due(x, "fact(0, 14)", -14);
             Edges.due(x, "aim(0, 0)", value);
             Edges.due(x, "best(0, 1)", value);
+            long off = Math.min(Math.abs(value), Math.abs(value - 1));
+            Edges.due(x, "best(0, 2)", value - 1 + 3 * off);
+            Edges.due(x, "best(0, 2)", value - 1 + 3 * off);
         }
+        Edges.promise(48, "of 16 facts the last can be told, too");
+        Edges.due(x, "future(0, 2)", 0);
+        Edges.due(x, "expected(0, 1)", 2);
+        Edges.due(x, "told(0, 0, 15, 7)", 1);
+        Edges.due(x, "expected(0, 1)", 14);
+        Edges.due(x, "told(0, 0, 16, 7)", 0);
         Edges.promise(16, "false when it is none such; nothing changes");
         refused(0, "change(0, 0, 10000)", "change(0, 0, -10000)", "change(0, 0, MIN)", "change(0, 0, MAX)");
-        refused(0, "change(0, -1, 1)", "change(0, 1, 1)", "change(0, 16, 1)", "change(0, MIN, 1)", "change(0, MAX, 1)", "change(2, 0, 1)");
+        refused(0, "change(0, -1, 1)", "change(0, 1, 1)", "change(0, 16, 1)", "change(0, MIN, 1)", "change(0, MAX, 1)",
+            "change(2, 0, 1)");
     }
 
     private static void plansAtHand() {
@@ -499,7 +535,8 @@ final class CallEdges {
         }
         Edges.due(x, "count(0, 5)", 6);
         Edges.promise(18, "false when it is none of it; nothing changes");
-        refused(0, "put(0, 0, -1)", "put(0, 0, 3)", "put(0, 1, 1)", "put(0, 1, -2)", "put(0, 1, 3)", "put(0, 2, 4)", "put(0, 2, 7)",
+        refused(0, "put(0, 2, 0)", "put(2, 0, 0)", "put(0, 0, -1)", "put(0, 0, 3)", "put(0, 1, 1)", "put(0, 1, -2)",
+            "put(0, 1, 3)", "put(0, 2, 4)", "put(0, 2, 7)",
             "put(0, 0, MIN)", "put(0, 0, MAX)", "put(0, 0, 256)", "put(2, 0, 3)");
         refused(0, "put(0, -1, 0)", "put(0, 3, 0)", "put(0, 12, 0)", "put(0, MIN, 0)", "put(0, MAX, 0)");
     }
@@ -517,7 +554,8 @@ final class CallEdges {
         Edges.due(x, "count(0, 5)", 3);
         Edges.due(x, "pin(0, 1, false)", 0);
         Edges.promise(19, "false when there is no such var; nothing changes");
-        refused(0, "pin(0, -1, true)", "pin(0, 3, true)", "pin(0, 12, true)", "pin(0, 32, true)", "pin(0, MIN, true)", "pin(0, MAX, true)");
+        refused(0, "pin(0, -1, true)", "pin(0, 3, true)", "pin(0, 12, true)", "pin(0, 32, true)", "pin(0, MIN, true)",
+            "pin(0, MAX, true)");
         refused(0, "pin(0, -1, false)", "pin(0, 3, false)", "pin(2, 1, true)");
     }
 
@@ -536,7 +574,8 @@ final class CallEdges {
     private static void scores() {
         Edges.promise(21, "by what the plan at hand breaks rule r; NONE when there is none");
         refused(0, "broken(0, 0)", "broken(0, 2)");
-        refused(Edges.NONE, "broken(0, -1)", "broken(0, 4)", "broken(0, 24)", "broken(0, MIN)", "broken(0, MAX)", "broken(2, 1)");
+        refused(Edges.NONE, "broken(0, -1)", "broken(0, 4)", "broken(0, 24)", "broken(0, MIN)", "broken(0, MAX)",
+            "broken(2, 1)");
         Edges.promise(22, "what aim a is in the plan at hand; NO when there is none");
         PlanningHouse x = Edges.with(SHOP);
         Edges.put(x, 2, -1, 6);
@@ -560,7 +599,8 @@ final class CallEdges {
 
     private static void left() {
         Edges.promise(25, "how many values are LEFT, of all vars together");
-        String chain = "fact f = 0; var a in 0..3; var b in 0..3; var c in 0..3; var d in 0..1; rule r at 0*1: a < b; rule s at 0*1: b < c;"
+        String chain = "fact f = 0; var a in 0..3; var b in 0..3; var c in 0..3; var d in 0..1; rule r at 0*1: a < b; "
+            + "rule s at 0*1: b < c;"
             + "rule t at 1*1: d = 1; rule u at 0*1: f = 0;";
         PlanningHouse x = Edges.with(chain);
         Edges.due(x, "reach(0)", 2 + 2 + 2 + 2);
@@ -599,13 +639,33 @@ final class CallEdges {
         Edges.due(x, "reach(0)", 0);
         x.change(0, 0, 0);
         Edges.due(x, "reach(0)", 2 + 2 + 2 + 1);
+    }
+
+    private static void leftByRules() {
         Edges.promise(25, "rules of levels 1 and 2 take nothing");
         Edges.due(Edges.with("var a in 0..2; rule r at 1*1: a = 9; rule s at 2*1: a = 9;"), "reach(0)", 3);
         Edges.due(Edges.with("var a in 0..2;"), "reach(0)", 3);
         Edges.promise(25, "a value stays that each rule for itself leaves, though no plan is feasible");
-        x = Edges.with("var a in 0..1; var b in 0..1; var c in 0..1; rule r at 0*1: a # b; rule s at 0*1: b # c; rule t at 0*1: a # c;");
+        PlanningHouse x = Edges.with("var a in 0..1; var b in 0..1; var c in 0..1; rule r at 0*1: a # b; "
+            + "rule s at 0*1: b # c; rule t at 0*1: a # c;");
         Edges.due(x, "reach(0)", 6);
         Edges.due(x, "feasibles(0)", 0);
+        Edges.promise(25, "what goes of one var takes values of others along, in whatever order");
+        Edges.due(Edges.with("var a in 0..1; var b in 0..1; rule q at 0*1: a > 0; rule s at 0*1: a = 0 | b = 1;"),
+            "reach(0)", 2);
+        Edges.due(Edges.with("var b in 0..1; var a in 0..1; rule s at 0*1: a = 0 | b = 1; rule q at 0*1: a > 0;"),
+            "reach(0)", 2);
+        Edges.promise(25, "the first and the last value of a range may be the only one");
+        Edges.due(Edges.with("var a in 0..19; rule r at 0*1: a = 19;"), "reach(0)", 1);
+        Edges.due(Edges.with("var a in 0..19; rule r at 0*1: a = 0;"), "reach(0)", 1);
+        Edges.promise(25, "of a pinned var its value at hand, also without hard rules");
+        x = Edges.with("var a in 0..2; var b in 0..2;");
+        Edges.put(x, 1, 2);
+        x.pin(0, 0, true);
+        Edges.due(x, "reach(0)", 1 + 3);
+        Edges.due(x, "isLeft(0, 0, 1)", 1);
+        Edges.due(x, "isLeft(0, 0, 0)", 0);
+        Edges.due(x, "isLeft(0, 0, 2)", 0);
         Edges.promise(25, "nothing but the answer");
         refused(3 + 3 + 2, "reach(0)");
         refused(0, "reach(2)");
@@ -614,7 +674,8 @@ final class CallEdges {
 
     private static void hopeless() {
         Edges.promise(27, "the first hard rule that no plan of all ranges keeps; NONE when there is none such");
-        PlanningHouse x = Edges.with("fact f = 2; var a in 0..2; var b in 0..2; rule q at 1*1: a = 9; rule r at 0*1: a + b < f;"
+        PlanningHouse x = Edges.with("fact f = 2; var a in 0..2; var b in 0..2; rule q at 1*1: a = 9; "
+            + "rule r at 0*1: a + b < f;"
             + "rule s at 0*1: a > f - 2; rule t at 0*1: a = 9;");
         Edges.due(x, "hopeless(0)", 3);
         x.change(0, 0, 0);
@@ -676,7 +737,8 @@ final class CallEdges {
         Edges.plan(x, 0, 2, -1, 6);
         Edges.due(x, "feasibleAt(0, 12)", 1);
         Edges.plan(x, 0, 2, -1, 5);
-        refused(0, "feasibleAt(0, 14)", "feasibleAt(0, -1)", "feasibleAt(0, MIN)", "feasibleAt(0, MAX)", "feasibleAt(2, 0)", "feasibleAt(2, -1)");
+        refused(0, "feasibleAt(0, 14)", "feasibleAt(0, -1)", "feasibleAt(0, MIN)", "feasibleAt(0, MAX)",
+            "feasibleAt(2, 0)", "feasibleAt(2, -1)");
         Edges.promise(33, "all 20000 plans may be feasible, and the best");
         x = Edges.with("var a in 1..20; var b in 1..20; var c in 1..10; var d in 1..5;");
         Edges.due(x, "feasibles(0)", 20000);
@@ -723,6 +785,8 @@ final class CallEdges {
         refused(1, "choices(0, 0)", "choices(0, 2)");
         refused(0, "choices(2, 0)");
         Edges.due(Edges.with("var a in 1..20; var b in 1..20;"), "choices(0, 1)", 20);
+        Edges.due(Edges.with("var a in 1..20;"), "choices(0, 0)", 20);
+        Edges.due(Edges.with("var a in 1..20; rule r at 1*1: a = 1 | a = 20;"), "choices(0, 0)", 2);
         Edges.promise(35, "NONE when there is no such var");
         refusedFor(new String[] {"-1", "3", "12", "MIN", "MAX"}, Edges.NONE, "choices(0, ?)");
     }
@@ -797,7 +861,8 @@ final class CallEdges {
             Edges.due(x, "frontPlan(0, " + k + ")", 1);
             Edges.plan(x, 0, first[k]);
         }
-        refused(0, "frontPlan(0, -1)", "frontPlan(0, 99)", "frontPlan(0, MIN)", "frontPlan(0, MAX)", "frontPlan(2, 0)", "frontPlan(2, -1)");
+        refused(0, "frontPlan(0, -1)", "frontPlan(0, 99)", "frontPlan(0, MIN)", "frontPlan(0, MAX)", "frontPlan(2, 0)",
+            "frontPlan(2, -1)");
         Edges.due(x, "frontPlan(0, 3)", 0);
         Edges.plan(x, 0, first[2]);
         Edges.promise(37, "0 when no allowed plan is feasible, 1 when all have the same scores");
@@ -810,7 +875,8 @@ final class CallEdges {
         Edges.due(x, "frontAt(0, 0, 1)", 2);
         Edges.due(x, "frontAt(0, 0, 0)", 1);
         Edges.promise(37, "all 20000 plans may be on it");
-        x = Edges.with("var a in 0..19; var b in 0..19; var c in 0..9; var d in 0..4; aim m at 1: a * 1000 + b * 50 + c * 5 + d; "
+        x = Edges.with("var a in 0..19; var b in 0..19; var c in 0..9; var d in 0..4; "
+            + "aim m at 1: a * 1000 + b * 50 + c * 5 + d; "
             + "aim n at 2: - a * 1000 - b * 50 - c * 5 - d;");
         Edges.due(x, "front(0)", 20000);
         Edges.due(x, "frontAt(0, 19999, 1)", 19999);
@@ -818,6 +884,82 @@ final class CallEdges {
         Edges.due(x, "frontAt(0, 20000, 0)", Edges.NO);
         Edges.due(x, "frontPlan(0, 12345)", 1);
         Edges.plan(x, 0, 12, 6, 9, 0);
+    }
+
+    /** Fronts of 1 to 40 plans with scores in disorder, against all pairs looked at one by one. */
+    private static void frontsOfAllSizes() {
+        Edges.promise(37, "fronts of any size and order");
+        for (int n = 1; n <= 40; n++) {
+            int[] ones = new int[n];
+            int[] twos = new int[n];
+            StringBuilder first = new StringBuilder();
+            StringBuilder second = new StringBuilder();
+            for (int i = 0; i < n; i++) {
+                ones[i] = (i * 37 + n * 11) % 23;
+                twos[i] = (i * 53 + n * 7) % 29;
+                first.append(" + ").append(ones[i]).append(" * [a + 20 * b = ").append(i).append("]");
+                second.append(" + ").append(twos[i]).append(" * [a + 20 * b = ").append(i).append("]");
+            }
+            String vars = n <= 20 ? "var a in 0.." + (n - 1) + "; var b in 0..0;" : "var a in 0..19; var b in 0..1;";
+            PlanningHouse x = Edges.with(vars + "rule r at 0*1: a + 20 * b < " + n + "; aim m at 1: 0" + first
+                + "; aim o at 2: 0" + second + ";");
+            int pairs = 0;
+            for (int one = 0; one < 23; one++) {
+                int plan = firstOnFront(ones, twos, one);
+                if (plan >= 0) {
+                    Edges.due(x, "frontAt(0, " + pairs + ", 1)", one);
+                    Edges.due(x, "frontAt(0, " + pairs + ", 2)", twos[plan]);
+                    Edges.due(x, "frontPlan(0, " + pairs + ")", 1);
+                    Edges.plan(x, 0, plan % 20, plan / 20);
+                    pairs++;
+                }
+            }
+            Edges.due(x, "front(0)", pairs);
+            Edges.due(x, "frontAt(0, " + pairs + ", 1)", Edges.NO);
+        }
+    }
+
+    /** As many pairs as plans, in any order. */
+    private static void frontsOfAllPlans() {
+        Edges.promise(37, "each plan may be on the front, in whatever order");
+        for (int n = 1; n <= 20; n++) {
+            for (int turn = 1; turn < 23; turn += 3) {
+                StringBuilder scores = new StringBuilder();
+                int[] planOf = new int[23];
+                Arrays.fill(planOf, -1);
+                for (int i = 0; i < n; i++) {
+                    int one = (i * turn + n) % 23;
+                    planOf[one] = i;
+                    scores.append(i > 0 ? ", " : "").append(one);
+                }
+                PlanningHouse x = Edges.with("var a in 0.." + (n - 1) + "; aim m at 1: pick(a : " + scores
+                    + "); aim o at 2: - pick(a : " + scores + ");");
+                Edges.due(x, "front(0)", n);
+                int k = 0;
+                for (int one = 0; one < 23; one++) {
+                    if (planOf[one] >= 0) {
+                        Edges.due(x, "frontAt(0, " + k + ", 1)", one);
+                        Edges.due(x, "frontAt(0, " + k + ", 2)", -one);
+                        Edges.due(x, "frontAt(0, " + k + ", 0)", 1);
+                        k++;
+                    }
+                }
+            }
+        }
+    }
+
+    /** Of the plans with this score at level 1 the first that no other one beats; -1 if there is none. */
+    private static int firstOnFront(int[] ones, int[] twos, int one) {
+        for (int i = 0; i < ones.length; i++) {
+            boolean beaten = ones[i] != one;
+            for (int j = 0; j < ones.length; j++) {
+                beaten |= ones[j] < ones[i] && twos[j] <= twos[i] || ones[j] <= ones[i] && twos[j] < twos[i];
+            }
+            if (!beaten) {
+                return i;
+            }
+        }
+        return -1;
     }
 
     private static void near() {
@@ -865,7 +1007,8 @@ final class CallEdges {
 
     private static void clashes() {
         // s and t clash, u and v too, w with none; 0 and 6 are soft.
-        PlanningHouse x = Edges.with("var a in 0..2; var b in 0..2; rule soft at 1*1: a = 9; rule w at 0*1: b < 9; rule s at 0*4: a < 1;"
+        PlanningHouse x = Edges.with("var a in 0..2; var b in 0..2; rule soft at 1*1: a = 9; rule w at 0*1: b < 9; "
+            + "rule s at 0*4: a < 1;"
             + "rule u at 0*3: a = b; rule t at 0*4: a > 1; rule v at 0*2: a # b; rule z at 2*1: a = 9;");
         Edges.promise(41, "each is left out for good, if those that are in yet without it CLASH still");
         Edges.due(x, "clash(0)", 1 << 3 | 1 << 5);
@@ -892,7 +1035,8 @@ final class CallEdges {
         }
         StringBuilder text = new StringBuilder("var a in 0..11;");
         for (int r = 0; r < 12; r++) {
-            text.append("rule s").append(r).append(" at 1*1: a = 0; rule h").append(r).append(" at 0*").append(r == 9 ? 999 : 1000)
+            text.append("rule s").append(r).append(" at 1*1: a = 0; "
+                + "rule h").append(r).append(" at 0*").append(r == 9 ? 999 : 1000)
                 .append(": a # ").append(r).append(';');
         }
         x = Edges.with(text.toString());
@@ -904,9 +1048,11 @@ final class CallEdges {
         Edges.promise(43, "the lightest of 12");
         Edges.due(x, "relax(0)", 1 << 19);
         Edges.promise(43, "fewer rules are not lighter");
-        x = Edges.with("var a in 0..1; rule r at 0*5: a = 1; rule s at 0*2: a = 0; rule t at 0*2: a # 1; rule u at 0*1: a < 1;");
+        x = Edges.with("var a in 0..1; rule r at 0*5: a = 1; rule s at 0*2: a = 0; rule t at 0*2: a # 1; "
+            + "rule u at 0*1: a < 1;");
         Edges.due(x, "relax(0)", 1);
-        x = Edges.with("var a in 0..1; rule r at 0*6: a = 1; rule s at 0*2: a = 0; rule t at 0*2: a # 1; rule u at 0*1: a < 1;");
+        x = Edges.with("var a in 0..1; rule r at 0*6: a = 1; rule s at 0*2: a = 0; rule t at 0*2: a # 1; "
+            + "rule u at 0*1: a < 1;");
         Edges.due(x, "relax(0)", 14);
         Edges.promise(43, "of several the least number");
         x = Edges.with("var a in 0..1; rule s at 0*2: a = 0; rule t at 0*3: a # 1; rule r at 0*5: a = 1;");
@@ -935,6 +1081,17 @@ final class CallEdges {
         Edges.due(x, "without(0, 0, 1)", 0);
         Edges.due(x, "without(0, 0, 2)", 3);
         Edges.due(x, "without(0, 1, 1)", Edges.NO);
+        Edges.promise(44, "a rule of level 1 or 2 takes what it costs with it");
+        x = Edges.with("var a in 0..2; rule r at 2*3: a = 0; rule s at 1*2: a = 2; rule t at 2*5: a < 1; aim m at 2: a;");
+        // Scores of a = 0, 1, 2 at levels 1 and 2: 4 0, 2 9, 0 18.
+        Edges.due(x, "best(0, 1)", 0);
+        Edges.due(x, "best(0, 2)", 18);
+        Edges.due(x, "without(0, 0, 1)", 0);
+        Edges.due(x, "without(0, 0, 2)", 12);
+        Edges.due(x, "without(0, 1, 1)", 0);
+        Edges.due(x, "without(0, 1, 2)", 0);
+        Edges.due(x, "without(0, 2, 1)", 0);
+        Edges.due(x, "without(0, 2, 2)", 8);
     }
 
     private static void whyNot() {
@@ -957,7 +1114,8 @@ final class CallEdges {
         refused(1, "because(0, 1, 2)");
         refused(3, "because(0, 2, 6)");
         Edges.promise(46, "NONE when there is none such, or no such plan");
-        refused(Edges.NONE, "because(0, 0, 1)", "because(0, 0, 0)", "because(0, 0, 2)", "because(0, 0, 3)", "because(0, 0, MIN)",
+        refused(Edges.NONE, "because(0, 0, 1)", "because(0, 0, 0)", "because(0, 0, 2)", "because(0, 0, 3)",
+            "because(0, 0, MIN)",
             "because(0, 0, MAX)", "because(2, 0, 4)");
         refusedFor(new String[] {"-1", "3", "12", "MIN", "MAX"}, Edges.NONE, "because(0, ?, 1)");
         Edges.due(x, "because(0, 0, 1)", Edges.NONE);
@@ -1033,21 +1191,25 @@ final class CallEdges {
         Edges.promise(48, "false when there is none such; nothing changes");
         refused(0, "told(0, -1, 0, 1)", "told(0, 2, 0, 1)", "told(0, 6, 0, 1)", "told(0, MIN, 0, 1)", "told(0, MAX, 0, 1)");
         refused(0, "told(0, 0, -1, 1)", "told(0, 0, 1, 1)", "told(0, 0, 16, 1)", "told(0, 0, MIN, 1)", "told(0, 0, MAX, 1)");
-        refused(0, "told(0, 0, 0, 10000)", "told(0, 0, 0, -10000)", "told(0, 0, 0, MIN)", "told(0, 0, 0, MAX)", "told(2, 0, 0, 1)");
+        refused(0, "told(0, 0, 0, 10000)", "told(0, 0, 0, -10000)", "told(0, 0, 0, MIN)", "told(0, 0, 0, MAX)",
+            "told(2, 0, 0, 1)");
         Edges.terms("all questions but those that name futures go by the facts as they are");
         PlanningHouse y = rich();
         y.told(0, 0, 0, -9999);
         y.told(0, 1, 0, -9999);
         PlanningHouse z = rich();
-        for (String call : new String[] {"feasibles(0)", "bests(0)", "best(0, 1)", "reach(0)", "hopeless(0)", "clash(0)", "front(0)",
-            "rule(0, 2, 3)", "without(0, 1, 1)", "broken(0, 2)", "score(0, 0)", "feasible(0)", "solve(0)", "search(0, 0, 0, 1, 9)"}) {
+        for (String call : new String[] {"feasibles(0)", "bests(0)", "best(0, 1)", "reach(0)", "hopeless(0)", "clash(0)",
+            "front(0)",
+            "rule(0, 2, 3)", "without(0, 1, 1)", "broken(0, 2)", "score(0, 0)", "feasible(0)", "solve(0)",
+                "search(0, 0, 0, 1, 9)"}) {
             Edges.due(y, call, Edges.ask(z, call));
         }
     }
 
     private static void robust() {
         Edges.promise(50, "the allowed plan feasible in all futures whose sums of odds times the score are least, of several the first");
-        PlanningHouse x = Edges.with("fact f = 0; fact g = 4; var a in 0..4; var b in 0..1; rule r at 0*1: a <= g; rule s at 1*1: a = f; aim m at 2: - a;");
+        PlanningHouse x = Edges.with("fact f = 0; fact g = 4; var a in 0..4; var b in 0..1; rule r at 0*1: a <= g; "
+            + "rule s at 1*1: a = f; aim m at 2: - a;");
         x.future(0, 1);
         x.future(0, 2);
         x.told(0, 1, 0, 4);
@@ -1091,9 +1253,39 @@ final class CallEdges {
         Edges.refused(one, "robust(0)", 0);
     }
 
+    private static void robustByLevels() {
+        Edges.promise(50, "level 1 goes before level 2, whatever the odds");
+        PlanningHouse x = Edges.with("fact f = 1; var a in 0..2; aim m at 1: pick(a : 2, 1, 1) * f; "
+            + "aim n at 2: pick(a : 0, 9, 8) * f;");
+        x.future(0, 100);
+        x.future(0, 1);
+        x.told(0, 1, 0, -1);
+        Edges.due(x, "robust(0)", 1);
+        Edges.plan(x, 0, 2);
+        Edges.due(x, "expected(0, 1)", 99);
+        Edges.due(x, "expected(0, 2)", 8 * 99);
+        Edges.promise(50, "only the last plan, or the first, may be feasible in all futures");
+        for (int only : new int[] {0, 4}) {
+            x = Edges.with("fact f = " + only + "; var a in 0..4; rule r at 0*1: a = f; aim m at 1: 3 * a;");
+            x.put(0, 0, 2);
+            x.future(0, 3);
+            Edges.due(x, "robust(0)", 1);
+            Edges.plan(x, 0, only);
+            Edges.promise(52, "with one future");
+            x.put(0, 0, 3);
+            Edges.due(x, "regret(0, 1)", 9 - 3 * only);
+            Edges.due(x, "regret(0, 0)", Math.abs(only - 3));
+            Edges.promise(51, "with one future");
+            Edges.due(x, "expected(0, 1)", 27);
+            Edges.board(x, 9, 1);
+            Edges.promise(50, "only the last plan, or the first, may be feasible in all futures");
+        }
+    }
+
     private static void expected() {
         Edges.promise(51, "the sum of odds times its score at a level, and the board shows that by the sum of odds");
-        PlanningHouse x = Edges.with("fact f = 5; var a in 0..1; aim m at 1: f; rule r at 0*2: a = 0; aim n at 2: 0 - 1000 * 1000;");
+        PlanningHouse x = Edges.with("fact f = 5; var a in 0..1; aim m at 1: f; rule r at 0*2: a = 0; "
+            + "aim n at 2: 0 - 1000 * 1000;");
         x.future(0, 100);
         x.future(0, 20);
         x.told(0, 1, 0, -4);
@@ -1124,7 +1316,8 @@ final class CallEdges {
 
     private static void regret() {
         Edges.promise(52, "how much the score is above the least one of all allowed plans feasible in that future, at most");
-        PlanningHouse x = Edges.with("fact f = 2; fact g = 0; var a in 0..4; rule r at 0*1: a <= f; rule s at 1*1: a = 4; aim m at 2: a * g;");
+        PlanningHouse x = Edges.with("fact f = 2; fact g = 0; var a in 0..4; rule r at 0*1: a <= f; "
+            + "rule s at 1*1: a = 4; aim m at 2: a * g;");
         x.future(0, 1);
         x.future(0, 100);
         x.told(0, 0, 0, 3);
@@ -1176,7 +1369,8 @@ final class CallEdges {
         Edges.promise(57, "the fraction shown last: by has() or expected() alone");
         x = rich();
         Edges.board(x, 3, 7);
-        for (String call : new String[] {"solve(0)", "front(0)", "robust(0)", "regret(0, 1)", "choices(0, 0)", "best(0, 1)", "prove(0)",
+        for (String call : new String[] {"solve(0)", "front(0)", "robust(0)", "regret(0, 1)", "choices(0, 0)",
+            "best(0, 1)", "prove(0)",
             "search(0, 1, 2, 3, 4)", "near(0, true)"}) {
             Edges.ask(x, call);
             Edges.board(x, 3, 7);

@@ -70,13 +70,14 @@ final class Edges {
 
     // ---- calls as texts, like has(0, 1, MAX, true); a boolean counts 1 or 0
 
-    static void due(PlanningHouse x, String call, long want) {
+    static void due(Object x, String call, long want) {
         due(call, ask(x, call), want);
     }
 
-    static long ask(PlanningHouse x, String call) {
+    /** The answer of a house, or of anything else that has calls of these names. */
+    static long ask(Object x, String call) {
         int open = call.indexOf('(');
-        Method m = method(call.substring(0, open));
+        Method m = method(x.getClass(), call.substring(0, open));
         String inside = call.substring(open + 1, call.length() - 1).trim();
         String[] words = inside.isEmpty() ? new String[0] : inside.split(" *, *");
         Class<?>[] types = m.getParameterTypes();
@@ -99,16 +100,18 @@ final class Edges {
         }
     }
 
-    private static Method method(String name) {
-        if (FACE.isEmpty()) {
-            for (Method m : PlanningHouse.class.getMethods()) {
-                FACE.put(m.getName(), m);
+    private static Method method(Class<?> of, String name) {
+        String key = of.getName() + "." + name;
+        for (Method m : FACE.containsKey(key) ? new Method[0] : of.getDeclaredMethods()) {
+            if (m.getName().equals(name)) {
+                m.setAccessible(true);
+                FACE.put(key, m);
             }
         }
-        if (!FACE.containsKey(name)) {
-            throw new IllegalStateException(name);
+        if (!FACE.containsKey(key)) {
+            throw new IllegalStateException(key);
         }
-        return FACE.get(name);
+        return FACE.get(key);
     }
 
     private static Object argument(String word, Class<?> type) {
@@ -121,14 +124,14 @@ final class Edges {
 
     // ---- texts
 
-    static void type(PlanningHouse x, String s) {
+    static void type(Object x, String s) {
         for (int i = 0; i < s.length(); i += 8) {
             int n = Math.min(8, s.length() - i);
             long w = 0;
             for (int j = 0; j < n; j++) {
                 w = w << 8 | s.charAt(i + j);
             }
-            x.type(w, n);
+            ask(x, "type(" + w + ", " + n + ")");
         }
     }
 

@@ -12,6 +12,7 @@ public final class EdgesTest {
         ProofEdges.run();
         StoreEdges.run();
         CallEdges.run();
+        ReuseEdges.run();
         int missing = 0;
         for (int n = 1; n <= PROMISES; n++) {
             if (!Edges.isNamed(n)) {

@@ -19,6 +19,7 @@ final class MeaningEdges {
         auto();
         busy();
         apart();
+        behindLists();
         scores();
         better();
         first();
@@ -303,6 +304,32 @@ final class MeaningEdges {
         broken(780, "apart(" + Edges.repeat("(a, b, 9999, 9999)", 40, ",") + ")", 1, 1);
     }
 
+    private static void behindLists() {
+        Edges.terms("what stands before and behind a list, a pick, a min or a max counts for itself");
+        sum(6, "pick(a : 5, -6, 8) + b", 0, 1);
+        sum(1, "pick(a : 5, -6, 8) + b", 3, 1);
+        sum(1, "pick(a : 5, -6, 8) * 7 + b", 3, 1);
+        sum(2, "pick(a - 1 : 0, 2) * pick(b : 1)", 2, 0);
+        sum(3, "5 - min(2, 3)");
+        sum(2, "5 - max(2, 3)");
+        sum(105, "100 + max(5)");
+        sum(-1, "2 * min(3, 4) - max(7, a) + min(a)", 0);
+        sum(-4, "min(1, 2, 3) - max(1, 2, 3) - min(a, b)", 2, 3);
+        broken(3, "all(a, b) & c = 1", 1, 2, 4);
+        broken(4, "c = 1 & all(a, b)", 1, 1, 4);
+        broken(2, "row(a, b : (5, 5)) & a = a", 1, 0);
+        broken(5, "row(a, b : (5, 5)) & c = 1", 1, 0, 4);
+        broken(2, "row(a, b : (5, 5), (1, 3)) & c = 1", 1, 0, 2);
+        broken(4, "lex(a : b) & c = 1", 2, 1, 4);
+        broken(3, "lex(a, b : b, a) & c = 1", 1, 2, 4);
+        broken(4, "ring(a, b) & c = 1", 1, 1, 4);
+        broken(4, "auto(a : (0, 2, 1) : 1) & c = 1", 1, 1, 4);
+        broken(3, "auto(a : (0, 1, 1) : 1) & c = 1", 1, 1, 4);
+        broken(4, "busy(0 : (a, 1, 1)) & c = 1", 1, 1, 4);
+        broken(4, "apart((a, b, 1, 1), (a, b, 1, 1)) & c = 1", 1, 1, 4);
+        broken(5, "all(a, b) & all(b, a) & c = 1", 1, 1, 4);
+    }
+
     private static void scores() {
         Edges.terms("the score: weight times what breaks it, of all rules of this level, and of all aims of it");
         PlanningHouse x = Edges.with("var a in 0..9; rule r at 0*1: a = 0; rule s at 0*1000: a < 9; rule t at 1*3: a = 2;"
@@ -398,7 +425,8 @@ final class MeaningEdges {
         x.told(0, 0, 0, 9);
         Edges.due(x, "solve(0)", 0);
         Edges.due(x, "drop(0)", 1);
-        Edges.due("problem()", Edges.read(x, "fact f = 4; var a in {5, 1}; var b in -2..0; rule r at 0*1: a = 1 & b = f - 4;"), 0);
+        Edges.due("problem()", Edges.read(x, "fact f = 4; var a in {5, 1}; var b in -2..0; "
+            + "rule r at 0*1: a = 1 & b = f - 4;"), 0);
         Edges.plan(x, 0, 5, -2);
         Edges.due(x, "fact(0, 0)", 4);
         Edges.due(x, "count(0, 5)", 6);

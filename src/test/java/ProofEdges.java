@@ -253,7 +253,8 @@ final class ProofEdges {
             fault(x, 2, "a(" + (n > 1 ? Edges.repeat(".", n - 1, ",") : "") + "^)");
         }
         Edges.terms("TREE number k of a var has value k of its range, in order");
-        PlanningHouse x = Edges.with("var a in {5, -2, 3}; var b in {1, 0}; rule r at 0*1: a > 0; rule q at 0*1: b = 0; aim m at 1: a;");
+        PlanningHouse x = Edges.with("var a in {5, -2, 3}; var b in {1, 0}; rule r at 0*1: a > 0; rule q at 0*1: b = 0; "
+            + "aim m at 1: a;");
         Edges.put(x, 3, 0);
         right(x, "a(b(!q,.),!r,b(!q,.))");
         fault(x, 8, "a(^!r,!r,.)");
@@ -306,7 +307,8 @@ final class ProofEdges {
 
     private static void checkKeeps() {
         Edges.promise(55, "FULL without the problem; nothing changes, and fault() is as it was");
-        Edges.refused(ProofEdges::withProof, Edges.FULL, "check(1)", "check(-1)", "check(3)", "check(4)", "check(MIN)", "check(MAX)");
+        Edges.refused(ProofEdges::withProof, Edges.FULL, "check(1)", "check(-1)", "check(3)", "check(4)", "check(MIN)",
+            "check(MAX)");
         Edges.promise(55, "the tape stays, and so does all else");
         Edges.refused(ProofEdges::withRightProof, "check(0)", 0);
         Edges.refused(ProofEdges::withProof, "check(0)", -1 - 11);
@@ -336,7 +338,8 @@ final class ProofEdges {
             Edges.refused(maker, "prove(0)", Edges.NONE);
         }
         Edges.promise(56, "NONE without the problem; nothing changes");
-        Edges.refused(ProofEdges::withProof, Edges.NONE, "prove(1)", "prove(-1)", "prove(3)", "prove(4)", "prove(MIN)", "prove(MAX)");
+        Edges.refused(ProofEdges::withProof, Edges.NONE, "prove(1)", "prove(-1)", "prove(3)", "prove(4)", "prove(MIN)",
+            "prove(MAX)");
         Edges.promise(56, "the tape becomes a PROOF of NAME ( TREES ) and . alone");
         proved(house(1, 1), "a(b(.,.,.),b(.,.,.))");
         proved(Edges.with("var ab in {7};"), "ab(.)");
@@ -346,6 +349,15 @@ final class ProofEdges {
         Edges.put(x, 2);
         proved(x, "a(.,.,.)");
         Edges.put(x, 0);
+        Edges.due(x, "prove(0)", Edges.NONE);
+        Edges.promise(56, "better is also what is the same at level 1 and less at level 2");
+        x = Edges.with("var a in 0..2; aim m at 1: 5; aim n at 2: pick(a : 4, 3, 3);");
+        Edges.due(x, "prove(0)", Edges.NONE);
+        Edges.put(x, 1);
+        proved(x, "a(.,.,.)");
+        x = Edges.with("var a in 0..2; aim m at 1: pick(a : 5, 6, 5); aim n at 2: pick(a : 4, 0, 4);");
+        proved(x, "a(.,.,.)");
+        Edges.put(x, 1);
         Edges.due(x, "prove(0)", Edges.NONE);
         Edges.promise(56, "only allowed plans count, and pinned vars are not named");
         x = house(0, 0);

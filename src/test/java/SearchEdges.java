@@ -19,6 +19,9 @@ final class SearchEdges {
 
     static void run() {
         walks();
+        manySeeds();
+        worths();
+        againAndAgain();
         lengths();
         noneFree();
         refusals();
@@ -198,8 +201,73 @@ final class SearchEdges {
         }
     }
 
+    private static void manySeeds() {
+        for (int seed = 0; seed < 120; seed++) {
+            Edges.terms("HOW 1: the entry is the score of the plan that is current then, not in a step that ended at k 3");
+            walk(FINE, 0, 1, 1 + seed % 4, seed * 7919, 14, 3, 1, 2);
+            walk(MIXED, 0, 1, 1 + seed % 3, seed * 7919, 14, 4, 7, 2, 4, -1);
+            Edges.terms("HOW 2: s + 1 to s + LENGTH; but it may, if the new plan is better than the kept one");
+            walk(FINE, 0, 2, 1 + seed % 4, seed * 7919, 14, 3, 1, 2);
+            walk(MIXED, 0, 2, 1 + seed % 3, seed * 7919, 14, 4, 7, 2, 4, -1);
+            Edges.terms("HOW 3: LENGTH less LENGTH * s / steps, cut down");
+            walk(FINE, 0, 3, 1 + seed % 6, seed * 7919, 14, 3, 1, 2);
+            walk(COARSE, 0, 3, 90 + seed, seed * 7919, 14, 1, 0);
+        }
+    }
+
+    /** One step from a = 0 can only lead to a = 1; it is taken or not by what it adds to the WORTH. */
+    private static void worth(boolean taken, int length, String rules) {
+        String text = "var a in 0..1; " + rules;
+        for (int seed : SEEDS) {
+            walk(text, 0, 3, length, seed, 1, 0);
+        }
+        PlanningHouse x = Edges.with(text);
+        Edges.due("search(0, 3, " + length + ", 1, 1) with " + rules, x.search(0, 3, length, 1, 1), taken ? 1 : 0);
+    }
+
+    private static void worths() {
+        Edges.terms("WORTH is 10000 times the score at level 0, 100 times that at 1, and that at 2, together");
+        worth(true, 10000, "rule r at 0*1: a = 0;");
+        worth(false, 9999, "rule r at 0*1: a = 0;");
+        worth(false, 10000, "rule r at 0*1: a = 0; aim m at 2: a;");
+        worth(true, 9999, "rule r at 0*1: a = 0; aim m at 2: - a;");
+        worth(false, 9998, "rule r at 0*1: a = 0; aim m at 2: - a;");
+        worth(true, 9900, "rule r at 0*1: a = 0; aim m at 1: - a;");
+        worth(false, 9899, "rule r at 0*1: a = 0; aim m at 1: - a;");
+        worth(true, 100, "aim m at 1: a;");
+        worth(false, 99, "aim m at 1: a;");
+        worth(true, 99, "aim m at 1: a; aim n at 2: - a;");
+        worth(true, 1, "aim m at 2: a;");
+        worth(false, 1, "aim m at 2: 2 * a;");
+        worth(true, 1, "aim m at 1: a; aim n at 2: -99 * a;");
+        worth(true, 10000, "aim m at 2: 1000 * 10 * a;");
+        worth(false, 10000, "aim m at 2: (1000 * 10 + 1) * a;");
+    }
+
+    private static void againAndAgain() {
+        Edges.promise(53, "a search has nothing of the one before but the plan at hand");
+        for (int how = 0; how <= 3; how++) {
+            PlanningHouse x = Edges.with(MIXED);
+            int[] start = {4, 7, 2, 4, -1};
+            Edges.put(x, start);
+            for (int round = 0; round < 12; round++) {
+                int length = 1 + round % 4;
+                Walk walk = new Walk(MIXED, start, 0, 1000 * round + how);
+                walk.go(how, length, 9);
+                Edges.due(x, "search(0, " + how + ", " + length + ", " + (1000 * round + how) + ", 9)", walk.taken);
+                Edges.due(x, "searched(0)", walk.trace);
+                Edges.due(x, "searched(1)", walk.z);
+                Edges.due(x, "searched(2)", walk.keptStep);
+                Edges.plan(x, 0, walk.kept);
+                start = round % 3 == 0 ? new int[] {round % 5, 0, 2, 4, 1} : walk.kept.clone();
+                Edges.put(x, start);
+            }
+        }
+    }
+
     private static void lengths() {
-        int[][] lengths = {{Integer.MIN_VALUE, -1, 0, 1, Integer.MAX_VALUE}, {1, 2, 19, 20}, {1, 2, 99, 100}, {1, 2, 9999, 10000}};
+        int[][] lengths = {{Integer.MIN_VALUE, -1, 0, 1, Integer.MAX_VALUE}, {1, 2, 19, 20}, {1, 2, 99, 100}, {1, 2, 9999,
+            10000}};
         for (int how = 0; how <= 3; how++) {
             Edges.promise(53, "a LENGTH that may be, with how " + how);
             for (int length : lengths[how]) {
@@ -264,7 +332,8 @@ final class SearchEdges {
         Edges.refused(SearchEdges::searchedBefore, Edges.NONE, "search(1, 0, 1, 5, 9)", "search(-1, 0, 1, 5, 9)",
             "search(4, 0, 1, 5, 9)", "search(MAX, 0, 1, 5, 0)", "search(MIN, 0, 1, 5, 0)");
         Edges.promise(54, "NONE for others, or before any");
-        Edges.refused(SearchEdges::searchedBefore, Edges.NONE, "searched(-1)", "searched(3)", "searched(MIN)", "searched(MAX)");
+        Edges.refused(SearchEdges::searchedBefore, Edges.NONE, "searched(-1)", "searched(3)", "searched(MIN)",
+            "searched(MAX)");
         Edges.refused(() -> Edges.with(MIXED), Edges.NONE, "searched(0)", "searched(1)", "searched(2)", "searched(3)");
     }
 

@@ -1,3 +1,5 @@
+import java.util.Arrays;
+
 /** Edges of THE STORE in "Terms", and of promises 59 to 66. */
 final class StoreEdges {
     private static final String SMALL = "var a in 0..1;";
@@ -352,6 +354,8 @@ final class StoreEdges {
         Edges.due(x, "save(0)", Edges.FULL);
         crash(x, "crash(29)", 99);
         Edges.due(x, "save(0)", 99);
+        crash(x, "crash(30)", 100);
+        crash(hundred(), "crash(MAX)", 100);
         Edges.promise(64, "the store goes on behind what is there");
         x = saved(2);
         x.crash(5);
@@ -487,7 +491,8 @@ final class StoreEdges {
             none(export(summed((char) first + right.substring(1))));
         }
         Edges.promise(66, "NONE, and nothing changes: a text is not right");
-        for (String text : new String[] {"", " ", "var a in 0..1", "var a in 0..1;?", "var a in 0..100;", "fact f = 1;", "var a in 1..0;"}) {
+        for (String text : new String[] {"", " ", "var a in 0..1", "var a in 0..1;?", "var a in 0..100;", "fact f = 1;",
+            "var a in 1..0;"}) {
             none(export(summed(head(text, new int[0], new int[][] {{0, 1}}, 0))));
         }
         none(export(summed(head("fact f = 1;", new int[] {1}, new int[0][], 0))));
@@ -521,6 +526,13 @@ final class StoreEdges {
         for (int pins : new int[] {4, 7, 256, 4096, 32768, 65535}) {
             none(export(row(TEXT, facts, vars, pins)));
         }
+        Edges.promise(66, "NONE, and nothing changes: a wrong row behind a right one of the same text");
+        String small = head(SMALL, new int[0], new int[][] {{1, 1}}, 0);
+        none(export(smallRow(0), summed((char) 210 + small.substring(1))));
+        for (int n : new int[] {0, 13, 15, 256, 65535}) {
+            none(export(smallRow(0), summed(small.substring(0, 1) + number(n, 2) + small.substring(3))));
+            none(export(smallRow(0), summed(small.substring(0, 1) + number(n, 2) + small.substring(3)), smallRow(1)));
+        }
         Edges.promise(66, "NONE, and nothing changes: also when only the last row is wrong");
         none(export(smallRow(0), smallRow(1), row(TEXT, facts, vars, 4)));
         none(export(row(TEXT, facts, vars, 4), smallRow(0), smallRow(1)));
@@ -553,7 +565,7 @@ final class StoreEdges {
         for (int before : new int[] {0, 1, 98, 99, 100}) {
             for (int rows : new int[] {100 - before, 101 - before}) {
                 String[] all = new String[rows];
-                java.util.Arrays.fill(all, smallRow(1));
+                Arrays.fill(all, smallRow(1));
                 String bytes = export(all);
                 Edges.Maker maker = () -> {
                     PlanningHouse x = saved(before);
@@ -591,7 +603,7 @@ final class StoreEdges {
         };
         Edges.refused(maker, "bring()", Edges.NONE);
         String[] many = new String[150];
-        java.util.Arrays.fill(many, smallRow(1));
+        Arrays.fill(many, smallRow(1));
         Edges.refused(() -> onTape(export(many)), "bring()", Edges.FULL);
         many[149] = wrong;
         Edges.refused(() -> onTape(export(many)), "bring()", Edges.NONE);

@@ -311,9 +311,10 @@ final class TextEdges {
         Edges.fault(2, rule + "apart((a,a,0,^-1));");
     }
 
-    // What opens one more: before its sign, its sign, and what closes it. The first seven hold SUMs, the rest TESTs.
+    // What opens one more: what is before its sign, what begins with its sign, and what closes it.
     private static final String[][] OPEN_SUMS = {{"", "(", ")"}, {"abs", "(", ")"}, {"min", "(", ",1)"},
-        {"max", "(", ",1)"}, {"pick", "(", ":1)"}, {"", "[", "=1]"}, {"", "-", ""}};
+        {"max", "(", ",1)"}, {"min", "(1,", ")"}, {"max", "(1,1,", ",1)"}, {"pick", "(", ":1)"}, {"", "[", "=1]"},
+        {"", "[1=1&1=", "]"}, {"", "-", ""}};
     private static final String[][] OPEN_TESTS = {{"1=1", "->", ""}, {"", "{", "}"}, {"", "~", ""}};
 
     private static String opened(String[] sort, int n) {
